@@ -100,7 +100,6 @@ public final class FretSchool {
     }
 
     public int pitch(int piece, int note) throws IndexOutOfBoundsException {
-        needPiece(piece);
         needNote(piece, note);
         return pieces[piece].pitches[note];
     }
@@ -147,13 +146,11 @@ public final class FretSchool {
     }
 
     public int position(int piece, int note, int instrument) throws IndexOutOfBoundsException {
-        needPiece(piece);
         needNote(piece, note);
         return findBest(piece, instrument) ? hand.row[note] : NONE;
     }
 
     public int string(int piece, int note, int instrument) throws IndexOutOfBoundsException {
-        needPiece(piece);
         needNote(piece, note);
         if (!findBest(piece, instrument)) {
             return NONE;
@@ -284,8 +281,8 @@ public final class FretSchool {
         }
     }
 
-    /** The piece is looked at before: see needPiece. */
     private void needNote(int piece, int note) {
+        needPiece(piece);
         if (note < 0 || note >= pieces[piece].count) {
             throw new IndexOutOfBoundsException("there is no such note");
         }
@@ -520,9 +517,9 @@ public final class FretSchool {
                 if (position == NOWHERE) {
                     return false;
                 }
-                int shift = shift(before, position);
-                sum += shift;
-                greatest = shift > greatest ? shift : greatest;
+                int step = shift(before, position);
+                sum += step;
+                greatest = step > greatest ? step : greatest;
                 row[note] = position;
                 before = position;
             }

@@ -9,6 +9,7 @@ public final class LessonsTest {
         knownStays();
         next();
         nextOnSeveralInstruments();
+        nextWithTheEasyOneFirst();
         CHECKS.end();
     }
 
@@ -38,6 +39,10 @@ public final class LessonsTest {
         int piece = Schools.compose(school, 1);
         int empty = school.begin();
         int high = Schools.compose(school, 17);
+        CHECKS.refuses("14: no piece, though an instrument", Checks.INDEX, () -> school.learn(2, 3, lute));
+        CHECKS.refuses("14: no piece, and no pupil", Checks.INDEX, () -> school.learn(5, 3, lute));
+        CHECKS.refuses("14: no piece, and another's", Checks.INDEX, () -> school.learn(1, 3, lute));
+        CHECKS.refuses("14: piece -1", Checks.INDEX, () -> school.learn(2, -1, lute));
         CHECKS.refuses("14: no instrument", Checks.INDEX, () -> school.learn(5, piece, 1));
         CHECKS.refuses("14: instrument -1", Checks.INDEX, () -> school.learn(2, piece, -1));
         CHECKS.refuses("14: another's", Checks.STATE, () -> school.learn(1, piece, lute));
@@ -134,5 +139,18 @@ public final class LessonsTest {
         CHECKS.refuses("14: not the pupil's", Checks.STATE, () -> school.learn(0, two, strange));
         CHECKS.same("17: two is left", school.next(0), two);
         CHECKS.same("14: the level grows by the one it is learned on", school.learn(0, two, hard), 3);
+    }
+
+    private static void nextWithTheEasyOneFirst() {
+        FretSchool school = new FretSchool();
+        int one = shifting(school, 1);
+        int two = shifting(school, 2);
+        int easy = Schools.build(school, 0, 16, 0, 0, 0, 0);
+        Schools.build(school, 0, 16, 0, 0, 0, 0);
+        school.tune(easy, 1, 9);
+        CHECKS.same("11: two is easy on the first", school.hardest(two, easy), 0);
+        CHECKS.same("17: of two, the easy one counts", school.next(0), two);
+        school.tune(easy, 1, 8);
+        CHECKS.same("17: of one, the easy one counts", school.next(0), one);
     }
 }

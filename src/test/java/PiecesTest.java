@@ -80,6 +80,13 @@ public final class PiecesTest {
         school.transpose(piece, -40);
         CHECKS.same("4: down, note 1", school.pitch(piece, 1), 0);
         CHECKS.same("4: down, note 2", school.pitch(piece, 2), 40);
+        int last = Schools.compose(school, 1, 0);
+        CHECKS.refuses("4: the last note only", Checks.STATE, () -> school.transpose(last, -1));
+        int first = Schools.compose(school, 0, 1);
+        CHECKS.refuses("4: the first note only", Checks.STATE, () -> school.transpose(first, -1));
+        int full = Schools.compose(school, new int[16]);
+        school.transpose(full, 3);
+        CHECKS.same("4: the last of 16", school.pitch(full, 15), 3);
         int empty = school.begin();
         school.transpose(empty, 40);
         CHECKS.same("4: a note after it is not moved", school.addNote(empty, 80), 1);
