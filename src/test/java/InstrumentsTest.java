@@ -21,8 +21,8 @@ public final class InstrumentsTest {
         CHECKS.refuses("6: pitch -1", Checks.ARGUMENT, () -> school.tune(lute, 0, -1));
         int[] open = {10, 20, 30, 40};
         for (int string = 0; string < 4; string++) {
-            CHECKS.same("6: before", school.tune(lute, string, 60 - 20 * string % 80), open[string]);
-            CHECKS.same("6: then", school.tune(lute, string, string), 60 - 20 * string % 80);
+            CHECKS.same("6: before", school.tune(lute, string, 60 - 20 * string), open[string]);
+            CHECKS.same("6: then", school.tune(lute, string, string), 60 - 20 * string);
             CHECKS.same("6: the other stays", school.tune(oud, string, 0), open[string]);
         }
         int piece = Schools.compose(school, 45);
