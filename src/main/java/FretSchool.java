@@ -319,7 +319,8 @@ public final class FretSchool {
 
     /** The greatest shift if the pupil's hand and ownership let the pupil learn the piece there, else NONE. */
     private int learnableShift(int pupil, int piece, int instrument) {
-        if (builds[instrument].keeper != pupil || !findBest(piece, instrument)) {
+        Instrument played = builds[instrument];
+        if (played.keeper != pupil || !hand.placeBest(pieces[piece], played)) {
             return NONE;
         }
         return hand.greatest <= pupils[pupil].grade ? hand.greatest : NONE;

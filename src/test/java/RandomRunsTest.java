@@ -5,7 +5,7 @@ import java.util.TreeMap;
 public final class RandomRunsTest {
     private static final Checks CHECKS = new Checks("RandomRunsTest");
     private static final int RUNS = 1500;
-    private static final int CALLS = 512;
+    private static final int CALLS = Replay.MOST_CALLS;
     /** The calls that lead on stand more often, so that runs get to pieces that can be played and learned. */
     private static final String[] NAMES = {
         "begin", "addNote", "addNote", "addNote", "addNote", "addNote", "addNote", "addNote", "addNote", "transpose",
@@ -37,13 +37,13 @@ public final class RandomRunsTest {
             String name = NAMES[random.nextInt(NAMES.length)];
             int[] a = arguments(name, random, base);
             String due = model.answer(name, a);
-            String got = answer(school, name, a);
+            String got = Call.of(name, a).on(school);
             if (!got.equals(due)) {
                 CHECKS.fail("seed " + seed + ", call " + call + ": " + name + java.util.Arrays.toString(a)
                         + " answered " + got + ", due is " + due);
                 return;
             }
-            if (!got.endsWith("Exception")) {
+            if (!Call.isRefusal(got)) {
                 seen.merge(name, 1, Integer::sum);
             }
         }
@@ -80,44 +80,5 @@ public final class RandomRunsTest {
     private static int edge(Random random, int least, int most) {
         int[] edges = {least - 1, least, least + 1, most - 1, most, most + 1};
         return edges[random.nextInt(edges.length)];
-    }
-
-    /** The name of the very class that was thrown: what the machine throws bears another name. */
-    private static String answer(FretSchool school, String name, int[] a) {
-        try {
-            if (name.equals("transpose")) {
-                school.transpose(a[0], a[1]);
-                return "done";
-            }
-            return "" + call(school, name, a);
-        } catch (RuntimeException e) {
-            return e.getClass().getSimpleName();
-        }
-    }
-
-    private static int call(FretSchool school, String name, int[] a) {
-        switch (name) {
-            case "begin": return school.begin();
-            case "addNote": return school.addNote(a[0], a[1]);
-            case "pitch": return school.pitch(a[0], a[1]);
-            case "tune": return school.tune(a[0], a[1], a[2]);
-            case "owner": return school.owner(a[0]);
-            case "instruments": return school.instruments();
-            case "shifts": return school.shifts(a[0], a[1]);
-            case "shiftsByAll": return school.shiftsByAll(a[0], a[1]);
-            case "hardest": return school.hardest(a[0], a[1]);
-            case "position": return school.position(a[0], a[1], a[2]);
-            case "string": return school.string(a[0], a[1], a[2]);
-            case "learn": return school.learn(a[0], a[1], a[2]);
-            case "level": return school.level(a[0]);
-            case "known": return school.known(a[0]);
-            case "next": return school.next(a[0]);
-            case "addWood": return school.addWood(a[0], a[1]);
-            case "order": return school.order(a[0], a[1], a[2]);
-            case "ready": return school.ready(a[0]);
-            case "fetch": return school.fetch(a[0], a[1], a[2], a[3], a[4]);
-            case "pass": return school.pass(a[0]);
-            default: return school.today();
-        }
     }
 }
