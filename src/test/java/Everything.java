@@ -2,7 +2,7 @@ import java.util.ArrayList;
 import java.util.List;
 import java.util.function.Consumer;
 
-/** Everything that can be asked of a school: by the calls that only answer, and by what the changing calls answer then. */
+/** Everything that can be asked of a school: what the calls that only answer tell, and what the others answer next. */
 final class Everything {
     private static final List<Consumer<Replay>> PARTS = List.of(
             Everything::numbers, Everything::pieces, Everything::positions, Everything::stock, Everything::openStrings,

@@ -23,6 +23,7 @@ public final class LessonEdgesTest {
         nextUpToTheLevel();
         nextOfSeveralTheLowest();
         nextOnAnyInstrumentOfThePupils();
+        nextOnTheEasiestInstrument();
         nextChangesNothing();
         CHECKS.end();
     }
@@ -357,6 +358,22 @@ public final class LessonEdgesTest {
         trial.answers(nine, "next", 0);
         trial.goes("learn", 0, nine, last);
         trial.answers(two, "next", 0);
+    }
+
+    /** The piece counts by its easiest instrument, whether that is the first of them or the last. */
+    private static void nextOnTheEasiestInstrument() {
+        Trial trial = trial("17: the least greatest shift on any instrument");
+        int one = shifting(trial, 1);
+        int two = shifting(trial, 2);
+        int first = trial.plainLute();
+        int last = trial.plainLute();
+        for (int easy : new int[] {first, last}) {
+            trial.answers(one, "next", 0);
+            trial.goes("tune", easy, 1, 9);
+            trial.answers(0, "hardest", two, easy);
+            trial.answers(two, "next", 0);
+            trial.goes("tune", easy, 1, 0);
+        }
     }
 
     private static void nextChangesNothing() {

@@ -193,7 +193,7 @@ public final class PositionEdgesTest {
         }
     }
 
-    /** Without open strings a fret is reached from 3 positions below it up to itself: two such spans lie so far apart. */
+    /** A fret is reached from the position 3 below it up to its own: two such spans lie so far apart. */
     private static void handReachesThreeFretsOn() {
         for (int frets = 4; frets <= 16; frets++) {
             for (int first = 1; first <= frets; first++) {
